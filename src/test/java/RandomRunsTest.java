@@ -7,12 +7,15 @@ public final class RandomRunsTest {
     private static final int[] ENDS = {Integer.MIN_VALUE, -2, -1, 61, 100, 101, 512, 1000, Integer.MAX_VALUE};
 
     private final Random random;
+    // In every other run most acts are TICKS, so that guests get far from BOOT and THE LOG fills.
+    private final boolean ticking;
     private final GuestView x = new GuestView();
     private final Model m = new Model();
     private String call = "";
 
     private RandomRunsTest(long seed) {
         random = new Random(seed);
+        ticking = seed % 2 == 1;
     }
 
     public static void main(String[] args) {
@@ -209,7 +212,7 @@ public final class RandomRunsTest {
 
     private String[] one(int i) {
         call = "";
-        int sort = i == 0 ? 0 : i == 1 ? 2 : random.nextInt(100);
+        int sort = i == 0 ? 0 : i == 1 ? 2 : ticking && random.nextInt(6) > 0 ? 4 + random.nextInt(96) : random.nextInt(100);
         if (sort < 2) {
             tape(spoil(benchText()));
             return both("bench()", x::bench, m::bench);
@@ -249,7 +252,7 @@ public final class RandomRunsTest {
     private String[] act() {
         int op = anOp();
         boolean is = coin();
-        switch (upTo(14)) {
+        switch (ticking && random.nextInt(4) > 0 ? 14 : upTo(14)) {
             case 0: return both("boot", () -> { x.boot(); return 0; }, () -> { m.boot(); return 0; });
             case 1: return both("patch " + op + is, () -> bit(x.patch(op, is)), () -> bit(m.patch(op, is)));
             case 2: return both("guard " + op + is, () -> bit(x.guard(op, is)), () -> bit(m.guard(op, is)));
