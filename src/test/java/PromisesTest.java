@@ -179,6 +179,8 @@ public final class PromisesTest {
         wrongBench(x, "op risedrop", 3);
         wrongBench(x, "opening", 0);
         wrongBench(x, "Op rise", 0);
+        wrongBench(x, "opz rise", 0);
+        wrongBench(x, "op{rise", 2);
         wrongBench(x, " ;", 1);
         wrongBench(x, "cost 1;", 7);
         wrongBench(x, "cost 1 ; ", 9);
@@ -241,6 +243,14 @@ public final class PromisesTest {
         Due.law(x, "worth 1 if not not not not not not guarded;worth 2 if ((((((guarded))))));worth 4 if 999>998+op");
         due.is("WORTH", x.op(0, 10), 8);
         due.is("WORTH", x.op(2, 10), 1);
+        Due.bench(x, "program 0 0 0 0 0 0 0 0 0");
+        Due.law(x, "cost 5 if op < 1;blame 3 if uses > 8;blame 4 if uses > 9");
+        due.is("EMULATION", x.op(0, 8), 7);
+        due.is("EMULATION of another one", x.op(1, 8), 2);
+        due.is("BLAME of nine uses", x.op(0, 9), 3);
+        x.put(9, 0);
+        due.is("BLAME of ten uses", x.op(0, 9), 7);
+        Due.bench(x, "program 7 7 6");
         due.is("the empty law", Due.law(x, "  "), 0);
         due.is("count(2)", x.count(2), 0);
         x.ticks(2);
@@ -692,6 +702,9 @@ public final class PromisesTest {
         due.is("an alarm does not matter", y.alarm(100), 0);
         due.is("leaks", y.leaks(), 4);
         due.is("PROGRAM without", with(EIGHT).leaks(), NONE);
+        y.put(3, 2);
+        due.is("an alarm does not matter", y.traps(60), 1);
+        countedLeaks();
         due.throwing("traps(61)", ARGUMENT, () -> y.traps(61));
         due.throwing("traps(-1)", ARGUMENT, () -> y.traps(-1));
         due.throwing("depth(61, 0)", ARGUMENT, () -> y.depth(61, 0));
@@ -700,8 +713,30 @@ public final class PromisesTest {
         due.throwing("depth(0, -1)", ARGUMENT, () -> y.depth(0, -1));
     }
 
+    // CELL 0 is counted up to four, four times over, by CELL 1: where stands at the 60th STEP.
+    private void countedLeaks() {
+        GuestView x = with("op load 0 add 1 save 0;op drop skip 0;op guarded add 0;op add 0;op load 1 add 1 save 1;op skip 0;op where"
+            + ";program 0 1 2 3 4 5 2 6");
+        x.patch(1, true);
+        due.is("leaks at the last STEP that counts", x.leaks(), 60);
+        due.is("traps", x.traps(60), 16 + 12 + 3);
+        due.is("ahead", x.ahead(59, true), 7);
+        due.is("ahead", x.ahead(60, false), 8);
+        x.put(7, 3);
+        x.put(8, 6);
+        due.is("leaks beyond", x.leaks(), NONE);
+        x.ticks(60);
+        due.is("alike", x.alike(), true);
+        x.ticks(1);
+        due.is("alike no more", x.alike(), false);
+    }
+
     // Promise 30
     private void proofs() {
+        GuestView four = with("op guarded rise;op time;cost 0;program 0 0 0 1");
+        Due.law(four, "cost 1 if uses > 2");
+        due.is("four OPS leak", four.leaks(), 4);
+        due.is("three do not", four.proof(), NONE);
         GuestView x = with(EIGHT + ";program 2 2");
         due.is("who", x.proof(), 1004);
         x.patch(3, true);
