@@ -22,6 +22,7 @@ public final class GuestView {
     private static final int HIGHEST = 9999;
     private static final int FARTHEST_PC = 12;
     private static final int MOST_TOLD = 40;
+    private static final int MOST_WRONG = 1;
     private static final int NO_ROW = -2;
     private static final int UNKNOWN = -2;
 
@@ -1643,7 +1644,7 @@ public final class GuestView {
     private int fitting() {
         int bits = 0;
         for (int op = 0; op < now.ops.total; op++) {
-            if (wrongRows(op) <= 1) {
+            if (wrongRows(op) <= MOST_WRONG) {
                 bits |= 1 << op;
             }
         }
@@ -1658,7 +1659,7 @@ public final class GuestView {
     public int likely() throws IllegalArgumentException {
         takeRows();
         int best = NONE;
-        int fewest = MOST_TOLD;
+        int fewest = MOST_WRONG + 1;
         for (int op = 0; op < now.ops.total; op++) {
             int wrong = wrongRows(op);
             if (wrong < fewest) {

@@ -1034,13 +1034,15 @@ final class Model {
 
     int likely() {
         String rows = rows();
-        int best = NONE;
-        for (int i = all.ops.size() - 1; i >= 0; i--) {
-            if (best == NONE || wrong(all.ops.get(i), rows) <= wrong(all.ops.get(best), rows)) {
-                best = i;
+        int fit = which(rows);
+        for (int wrong = 0; wrong <= 1; wrong++) {
+            for (int i = 0; i < all.ops.size(); i++) {
+                if ((fit >> i & 1) == 1 && wrong(all.ops.get(i), rows) == wrong) {
+                    return i;
+                }
             }
         }
-        return best;
+        return NONE;
     }
 
     int ask() {

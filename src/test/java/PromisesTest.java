@@ -796,7 +796,13 @@ public final class PromisesTest {
         due.is("likely", told(x, 1, 0, 2), 7);
         due.is("likely, the least", told(x, 1, 0, 2, 1, 1), 0);
         due.is("likely, none told", told(x, 1), 0);
-        due.is("likely with two wrong rows", told(x, 1, 3, 1, 4, 1, 5, 1, 0, 2), 3);
+        due.is("likely, a later one of none wrong", told(x, 1, 1, 1, 6, 3), 1);
+        due.is("likely, each of one wrong", told(x, 1, 3, 1, 6, 8), 3);
+        due.is("likely, one wrong ahead of two", told(x, 1, 3, 1, 6, 8, 5, 1), 6);
+        due.is("likely, two wrong of each", told(x, 1, 3, 1, 4, 1, 5, 1), NONE);
+        due.is("likely, three wrong and more", told(x, 1, 3, 1, 4, 1, 5, 1, 0, 2), NONE);
+        due.is("likely, 20 rows wrong", told(x, 1, new int[40]), NONE);
+        due.is("likely without OPS", told(new GuestView(), 1), NONE);
         due.is("ask", told(x, 2, 0, 2, 1, 1), 6);
         due.is("ask, none told: KIND", told(x, 2), 6);
         due.is("ask, one alone", told(x, 2, 3, 1, 6, 7, 0, 1), NONE);
