@@ -48,28 +48,6 @@ public final class PromisesTest {
         test.due.finish();
     }
 
-    private static GuestView with(String... texts) {
-        GuestView x = new GuestView();
-        for (String text : texts) {
-            Due.bench(x, text);
-        }
-        return x;
-    }
-
-    private void wrongBench(GuestView x, String text, int at) {
-        Due.tape(x, text);
-        due.throwing("bench '" + text + "'", ARGUMENT, x::bench);
-        due.is("fault of '" + text + "'", x.fault(), at);
-        due.is("the tape is used up", x.end(1), false);
-    }
-
-    private void wrongLaw(GuestView x, String text, int at) {
-        Due.tape(x, text);
-        due.throwing("law '" + text + "'", ARGUMENT, x::law);
-        due.is("fault of '" + text + "'", x.fault(), at);
-        due.is("the tape is used up", x.end(1), false);
-    }
-
     // Promise 1, 53
     private void newObject() {
         GuestView x = new GuestView();
@@ -150,7 +128,7 @@ public final class PromisesTest {
         for (int n = 5; n <= 12; n++) {
             due.is("bench", Due.bench(x, ""), n);
         }
-        wrongBench(x, "vat", 0);
+        due.wrongBench(x, "vat", 0);
         Due.tape(x, "cost 0");
         due.throwing("a 13th text", UnsupportedOperationException.class, x::bench);
         due.is("fault", x.fault(), NONE);
@@ -162,46 +140,46 @@ public final class PromisesTest {
 
     // Promises 4, 6
     private void benchFaults() {
-        GuestView x = with("op rise;cells 1;vector 4");
-        wrongBench(x, "op", 2);
-        wrongBench(x, "op ", 3);
-        wrongBench(x, "op;", 2);
-        wrongBench(x, "op guarded", 10);
-        wrongBench(x, "op guarded guarded rise", 11);
-        wrongBench(x, "op rise guarded", 8);
-        wrongBench(x, "op add", 6);
-        wrongBench(x, "op add rise", 7);
-        wrongBench(x, "op add 8", 7);
-        wrongBench(x, "op add 0007", 7);
-        wrongBench(x, "op add 1 2", 9);
-        wrongBench(x, "op rise 1", 8);
-        wrongBench(x, "op rise drop move where", 18);
-        wrongBench(x, "op risedrop", 3);
-        wrongBench(x, "opening", 0);
-        wrongBench(x, "Op rise", 0);
-        wrongBench(x, "opz rise", 0);
-        wrongBench(x, "op{rise", 2);
-        wrongBench(x, " ;", 1);
-        wrongBench(x, "cost 1;", 7);
-        wrongBench(x, "cost 1 ; ", 9);
-        wrongBench(x, "cost 1;;cost 2", 7);
-        wrongBench(x, "cost 1 cost 2", 7);
-        wrongBench(x, "cost", 4);
-        wrongBench(x, "cost 8", 5);
-        wrongBench(x, "cost -1", 5);
-        wrongBench(x, "vector 10", 7);
-        wrongBench(x, "shift 4", 6);
-        wrongBench(x, "alarm 101", 6);
-        wrongBench(x, "purse 1000", 6);
-        wrongBench(x, "cells", 5);
-        wrongBench(x, "cells 4", 6);
-        wrongBench(x, "cells 0 0 0 0 0 0 0 0 0", 22);
-        wrongBench(x, "program 1", 8);
-        wrongBench(x, "program 1;op rise", 8);
-        wrongBench(x, "program 0 0 0 0 0 0 0 0 0 0 0", 28);
-        wrongBench(x, "op rise" + ";op rise".repeat(7), 56);
-        wrongBench(x, "cost 1" + ";cost 1".repeat(14), 98);
-        wrongBench(x, "cells 3 3;vector 5;op drop;shift 0;purse 9;fly", 43);
+        GuestView x = Due.with("op rise;cells 1;vector 4");
+        due.wrongBench(x, "op", 2);
+        due.wrongBench(x, "op ", 3);
+        due.wrongBench(x, "op;", 2);
+        due.wrongBench(x, "op guarded", 10);
+        due.wrongBench(x, "op guarded guarded rise", 11);
+        due.wrongBench(x, "op rise guarded", 8);
+        due.wrongBench(x, "op add", 6);
+        due.wrongBench(x, "op add rise", 7);
+        due.wrongBench(x, "op add 8", 7);
+        due.wrongBench(x, "op add 0007", 7);
+        due.wrongBench(x, "op add 1 2", 9);
+        due.wrongBench(x, "op rise 1", 8);
+        due.wrongBench(x, "op rise drop move where", 18);
+        due.wrongBench(x, "op risedrop", 3);
+        due.wrongBench(x, "opening", 0);
+        due.wrongBench(x, "Op rise", 0);
+        due.wrongBench(x, "opz rise", 0);
+        due.wrongBench(x, "op{rise", 2);
+        due.wrongBench(x, " ;", 1);
+        due.wrongBench(x, "cost 1;", 7);
+        due.wrongBench(x, "cost 1 ; ", 9);
+        due.wrongBench(x, "cost 1;;cost 2", 7);
+        due.wrongBench(x, "cost 1 cost 2", 7);
+        due.wrongBench(x, "cost", 4);
+        due.wrongBench(x, "cost 8", 5);
+        due.wrongBench(x, "cost -1", 5);
+        due.wrongBench(x, "vector 10", 7);
+        due.wrongBench(x, "shift 4", 6);
+        due.wrongBench(x, "alarm 101", 6);
+        due.wrongBench(x, "purse 1000", 6);
+        due.wrongBench(x, "cells", 5);
+        due.wrongBench(x, "cells 4", 6);
+        due.wrongBench(x, "cells 0 0 0 0 0 0 0 0 0", 22);
+        due.wrongBench(x, "program 1", 8);
+        due.wrongBench(x, "program 1;op rise", 8);
+        due.wrongBench(x, "program 0 0 0 0 0 0 0 0 0 0 0", 28);
+        due.wrongBench(x, "op rise" + ";op rise".repeat(7), 56);
+        due.wrongBench(x, "cost 1" + ";cost 1".repeat(14), 98);
+        due.wrongBench(x, "cells 3 3;vector 5;op drop;shift 0;purse 9;fly", 43);
         due.is("nothing stays: cells", x.cell(0), 1);
         due.is("nothing stays: vector", x.count(4), 4);
         due.is("nothing stays: ops", x.count(0), 1);
@@ -210,12 +188,12 @@ public final class PromisesTest {
         due.is("nothing stays: texts", x.count(1), 1);
         due.is("seven more OPS", Due.bench(x, "op rise" + ";op rise".repeat(6)), 2);
         due.is("fault is none again", x.fault(), NONE);
-        wrongBench(x, "cost 2;op fly", 7);
+        due.wrongBench(x, "cost 2;op fly", 7);
     }
 
     // Promises 5, 7
     private void laws() {
-        GuestView x = with(EIGHT + ";program 7 7 6;cost 2");
+        GuestView x = Due.with(EIGHT + ";program 7 7 6;cost 2");
         due.is("law", Due.law(x, " cost 5 if op<1;blame 10 if guarded and not patched;worth 3 if sensitive;worth 40if uses>1 or timed+micros>1"), 4);
         due.is("count(2)", x.count(2), 4);
         due.is("EMULATION", x.op(0, 8), 7);
@@ -262,33 +240,33 @@ public final class PromisesTest {
 
     // Promises 5, 6
     private void lawFaults() {
-        GuestView x = with("op rise");
+        GuestView x = Due.with("op rise");
         Due.law(x, "worth 9");
-        wrongLaw(x, "tax 4", 0);
-        wrongLaw(x, "cost", 4);
-        wrongLaw(x, "cost 41", 5);
-        wrongLaw(x, "cost 0040", 5);
-        wrongLaw(x, "cost 4 5", 7);
-        wrongLaw(x, "cost 4 iff guarded", 7);
-        wrongLaw(x, "cost 4;", 7);
-        wrongLaw(x, "cost 4 if", 9);
-        wrongLaw(x, "cost 4 if ;", 10);
-        wrongLaw(x, "cost 4 if guarded patched", 18);
-        wrongLaw(x, "cost 4 if guarded or", 20);
-        wrongLaw(x, "cost 4 if guarded and or", 22);
-        wrongLaw(x, "cost 4 if uses", 14);
-        wrongLaw(x, "cost 4 if uses + < 3", 17);
-        wrongLaw(x, "cost 4 if uses < 3 < 4", 19);
-        wrongLaw(x, "cost 4 if uses < guarded", 17);
-        wrongLaw(x, "cost 4 if guarded < 3", 18);
-        wrongLaw(x, "cost 4 if (uses) < 3", 15);
-        wrongLaw(x, "cost 4 if (uses < 3", 19);
-        wrongLaw(x, "cost 4 if uses < 3)", 18);
-        wrongLaw(x, "cost 4 if uses < 1000", 17);
-        wrongLaw(x, "cost 4 if uses = 3", 15);
-        wrongLaw(x, "cost 4 if not not not not not not not guarded", 34);
-        wrongLaw(x, "cost 4 if (not (not (not (guarded))))", 25);
-        wrongLaw(x, "cost 4" + ";cost 4".repeat(12), 84);
+        due.wrongLaw(x, "tax 4", 0);
+        due.wrongLaw(x, "cost", 4);
+        due.wrongLaw(x, "cost 41", 5);
+        due.wrongLaw(x, "cost 0040", 5);
+        due.wrongLaw(x, "cost 4 5", 7);
+        due.wrongLaw(x, "cost 4 iff guarded", 7);
+        due.wrongLaw(x, "cost 4;", 7);
+        due.wrongLaw(x, "cost 4 if", 9);
+        due.wrongLaw(x, "cost 4 if ;", 10);
+        due.wrongLaw(x, "cost 4 if guarded patched", 18);
+        due.wrongLaw(x, "cost 4 if guarded or", 20);
+        due.wrongLaw(x, "cost 4 if guarded and or", 22);
+        due.wrongLaw(x, "cost 4 if uses", 14);
+        due.wrongLaw(x, "cost 4 if uses + < 3", 17);
+        due.wrongLaw(x, "cost 4 if uses < 3 < 4", 19);
+        due.wrongLaw(x, "cost 4 if uses < guarded", 17);
+        due.wrongLaw(x, "cost 4 if guarded < 3", 18);
+        due.wrongLaw(x, "cost 4 if (uses) < 3", 15);
+        due.wrongLaw(x, "cost 4 if (uses < 3", 19);
+        due.wrongLaw(x, "cost 4 if uses < 3)", 18);
+        due.wrongLaw(x, "cost 4 if uses < 1000", 17);
+        due.wrongLaw(x, "cost 4 if uses = 3", 15);
+        due.wrongLaw(x, "cost 4 if not not not not not not not guarded", 34);
+        due.wrongLaw(x, "cost 4 if (not (not (not (guarded))))", 25);
+        due.wrongLaw(x, "cost 4" + ";cost 4".repeat(12), 84);
         due.is("the law stays", x.op(0, 10), 10);
         due.is("LINES stay", x.count(2), 1);
         due.is("not beside one another", Due.law(x, "cost 1 if not guarded and not guarded and not (not guarded) and not patched and not patched and not patched and not patched"), 1);
@@ -296,7 +274,7 @@ public final class PromisesTest {
 
     // Promises 7, 8
     private void ops() {
-        GuestView x = with(EIGHT + ";program 7 7 6");
+        GuestView x = Due.with(EIGHT + ";program 7 7 6");
         int[] sizes = {1, 1, 1, 1, 1, 1, 1, 2};
         int[] guarded = {1, 1, 0, 0, 0, 0, 0, 0};
         int[] uses = {0, 0, 0, 0, 0, 0, 1, 2};
@@ -311,7 +289,7 @@ public final class PromisesTest {
             due.is("uses", x.op(op, 11), uses[op]);
             due.is("SHARE", x.op(op, 12), shares[op]);
         }
-        due.is("SHARE without PROGRAM", with(EIGHT).op(0, 12), 0);
+        due.is("SHARE without PROGRAM", Due.with(EIGHT).op(0, 12), 0);
         due.is("KIND", x.micro(7, 0, false), 9);
         due.is("N", x.micro(7, 0, true), 1);
         due.is("KIND", x.micro(7, 1, false), 0);
@@ -325,7 +303,7 @@ public final class PromisesTest {
         due.throwing("op(0, 13)", ELEMENT, () -> x.op(0, 13));
         due.throwing("op(0, -1)", ELEMENT, () -> x.op(0, -1));
         due.throwing("micro(8)", BOUNDS, () -> x.micro(8, 0, false));
-        GuestView all = with("op add 1 load 2 save 3;op rise drop move;op where who time;op skip 4 quiet");
+        GuestView all = Due.with("op add 1 load 2 save 3;op rise drop move;op where who time;op skip 4 quiet");
         for (int kind = 0; kind < 11; kind++) {
             due.is("KIND", all.micro(kind / 3, kind % 3, false), kind);
         }
@@ -333,7 +311,7 @@ public final class PromisesTest {
 
     // Promises 7, 9, 24, 29, 33
     private void traits() {
-        GuestView x = with(EIGHT);
+        GuestView x = Due.with(EIGHT);
         int[][] witnesses = {
             {4, NONE, NONE, NONE}, {NONE, NONE, NONE, NONE}, {NONE, NONE, NONE, NONE}, {NONE, 0, NONE, NONE},
             {1, NONE, NONE, NONE}, {NONE, NONE, 8, NONE}, {NONE, NONE, NONE, 0}, {NONE, NONE, NONE, NONE}};
@@ -364,7 +342,7 @@ public final class PromisesTest {
         due.is("where, guarded", x.witness(5, 2), 12);
         due.is("move, guarded", x.witness(4, 0), 5);
         // PATTERN 1 has CELL k = k: from R 1 on the load shows where BASE went.
-        GuestView y = with("op move load 0;op time skip 1;op quiet save 0;op who add 1 skip 2");
+        GuestView y = Due.with("op move load 0;op time skip 1;op quiet save 0;op who add 1 skip 2");
         due.is("move load: CELLS 0 show nothing, so PATTERN 1 does", y.witness(0, 2), 40);
         due.is("time by skip", y.witness(1, 3), 0);
         due.is("quiet: CELL 0 is 0, so R 1 shows it", y.witness(2, 1), 1);
@@ -376,7 +354,7 @@ public final class PromisesTest {
 
     // Promise 10
     private void doneInStates() {
-        GuestView x = with("op add 7 save 6 load 6;op guarded move;op where skip 3 drop;op rise who;op load 5;op skip 6 add 1 skip 0;op quiet add 1;op time");
+        GuestView x = Due.with("op add 7 save 6 load 6;op guarded move;op where skip 3 drop;op rise who;op load 5;op skip 6 add 1 skip 0;op quiet add 1;op time");
         // 3 + 4 + 8 * 3 + 32 * 7: R 3, MODE 1, BASE 6, A 3, B 1: CELLS 1 0 3 2 1 0 3 2.
         int state = 3 + 4 + 8 * 3 + 32 * 7;
         int[] save = {0, 2, 1, 6, 0, 1, 0, 3, 2, 2, 0, 3, 2};
@@ -409,7 +387,7 @@ public final class PromisesTest {
 
     // Promises 11, 12
     private void programsAndCells() {
-        GuestView x = with(EIGHT + ";program 7 0 7;cells 3 2 1 0 1 2 3 1");
+        GuestView x = Due.with(EIGHT + ";program 7 0 7;cells 3 2 1 0 1 2 3 1");
         int[] program = {7, 0, 7, NONE};
         int[] cells = {3, 2, 1, 0, 1, 2, 3, 1};
         for (int k = 0; k < 4; k++) {
@@ -428,7 +406,7 @@ public final class PromisesTest {
 
     // Promises 13, 14, 15, 25
     private void guestsAlike() {
-        GuestView x = with("op load 3;op save 1;op guarded drop;op skip 2;op add 1;program 0 1 3 4 2 2;cells 0 0 1 2;vector 3");
+        GuestView x = Due.with("op load 3;op save 1;op guarded drop;op skip 2;op add 1;program 0 1 3 4 2 2;cells 0 0 1 2;vector 3");
         // load 3: R 2; save 1; skip 2 SKIPS add; drop; drop traps: to VECTOR 3 in supervisor mode.
         int[] pcs = {1, 2, 4, 5, 3, 4, 5, 3};
         int[] rs = {2, 2, 2, 2, 2, 3, 3, 3};
@@ -459,7 +437,7 @@ public final class PromisesTest {
         due.throwing("guest(-1)", ELEMENT, () -> x.guest(false, -1));
         due.throwing("ticks(0)", ARGUMENT, () -> x.ticks(0));
         due.throwing("ticks(61)", ARGUMENT, () -> x.ticks(61));
-        GuestView y = with("op skip 0;program 0");
+        GuestView y = Due.with("op skip 0;program 0");
         y.ticks(1);
         due.is("SKIPS beyond the end", y.guest(false, 0), 2);
         due.is("HALTED", y.guest(false, 5), 1);
@@ -470,7 +448,7 @@ public final class PromisesTest {
 
     // Promises 13, 16, 17, 25, 26
     private void guestsUnlike() {
-        GuestView x = with(EIGHT + ";program 3");
+        GuestView x = Due.with(EIGHT + ";program 3");
         x.ticks(1);
         due.is("who, bare", x.guest(false, 1), 1);
         due.is("who, hosted", x.guest(true, 1), 0);
@@ -492,7 +470,7 @@ public final class PromisesTest {
         due.throwing("guard(-1)", BOUNDS, () -> x.guard(-1, true) ? 1 : 0);
 
         // move with R 0: BASE 0 of the host is VIRTUAL BASE 6 at SHIFT 2.
-        GuestView y = with(EIGHT + ";program 4 5");
+        GuestView y = Due.with(EIGHT + ";program 4 5");
         y.ticks(1);
         due.is("BASE, bare", y.guest(false, 3), 0);
         due.is("BASE, hosted", y.guest(true, 3), 6);
@@ -508,7 +486,7 @@ public final class PromisesTest {
         due.is("where at SHIFT 6", y.guest(true, 1), 3);
 
         // PATCHED is not GUARDED: in user mode it is EMULATED, not REFLECTED, and does not trap on the bare one.
-        GuestView z = with("op drop;op who;program 0 1;vector 5");
+        GuestView z = Due.with("op drop;op who;program 0 1;vector 5");
         z.patch(0, true);
         z.patch(1, true);
         z.ticks(2);
@@ -519,7 +497,7 @@ public final class PromisesTest {
 
     // Promises 13, 22, 26
     private void clocks() {
-        GuestView x = with(EIGHT + ";program 0 6");
+        GuestView x = Due.with(EIGHT + ";program 0 6");
         due.is("cost 1", x.leaks(), 2);
         x.ticks(2);
         due.is("R, bare", x.guest(false, 1), 1);
@@ -540,7 +518,7 @@ public final class PromisesTest {
 
     // Promises 14, 23, 48, 49: the first draws modulo 100 from SEED 1 are 38 58 13 15 51 27
     private void alarms() {
-        GuestView x = with("op add 1;program 0 0 0 0 0;vector 3");
+        GuestView x = Due.with("op add 1;program 0 0 0 0 0;vector 3");
         due.is("alarm", x.alarm(38), 0);
         x.ticks(1);
         due.is("38 is not below 38", x.count(10), 0);
@@ -564,7 +542,7 @@ public final class PromisesTest {
         due.is("PC of the HOSTED one ahead", x.log(2, 3), 2);
         due.is("an alarm twice", x.log(1, 3), 3);
         due.is("the third", x.log(0, 3), 4);
-        GuestView user = with("op guarded drop;op add 1;program 0 1 1;vector 2");
+        GuestView user = Due.with("op guarded drop;op add 1;program 0 1 1;vector 2");
         user.ticks(1);
         due.is("MODE", user.guest(false, 2), 0);
         due.is("SEED", user.seed(0), 1103527590);
@@ -578,7 +556,7 @@ public final class PromisesTest {
         due.is("MODE by an alarm", user.guest(true, 2), 1);
         due.is("MODE by an alarm", user.guest(false, 2), 1);
         due.is("PC by an alarm", user.guest(false, 0), 2);
-        GuestView y = with("op add 1;program 0;alarm 100;vector 0");
+        GuestView y = Due.with("op add 1;program 0;alarm 100;vector 0");
         y.ticks(5);
         due.is("always an alarm", y.count(10), 5);
         due.is("R", y.guest(true, 1), 0);
@@ -594,7 +572,7 @@ public final class PromisesTest {
 
     // Promise 14: 9999 at most
     private void bounds() {
-        GuestView x = with("op guarded drop;program 0 0;purse 999");
+        GuestView x = Due.with("op guarded drop;program 0 0;purse 999");
         Due.law(x, "worth 40;worth 40");
         for (int n = 0; n < 166; n++) {
             due.is("ticks", x.ticks(60), 60);
@@ -610,7 +588,7 @@ public final class PromisesTest {
         due.is("the oldest", x.log(59, 0), 9999 - 58);
         due.is("none", x.log(60, 0), -2);
         due.is("trial", x.trial(60, false), 9999);
-        GuestView y = with("op guarded drop;program 0;purse 999");
+        GuestView y = Due.with("op guarded drop;program 0;purse 999");
         Due.law(y, "worth 40");
         y.ticks(1);
         due.is("PURSE", y.count(9), 999 + 41);
@@ -618,7 +596,7 @@ public final class PromisesTest {
 
     // Promises 19, 20, 21, 22, 23
     private void settings() {
-        GuestView x = with("op add 1;program 0;cells 1 2 3;vector 4;shift 2;cost 3;alarm 7");
+        GuestView x = Due.with("op add 1;program 0;cells 1 2 3;vector 4;shift 2;cost 3;alarm 7");
         x.ticks(1);
         due.is("store", x.store(7, 3), 0);
         due.is("store", x.store(7, 1), 3);
@@ -660,7 +638,7 @@ public final class PromisesTest {
 
     // Promise 18
     private void puts() {
-        GuestView x = with("op add 1;op add 2");
+        GuestView x = Due.with("op add 1;op add 2");
         due.throwing("put(1, 0) ahead of 0", BOUNDS, () -> x.put(1, 0));
         due.throwing("put(0, 2)", BOUNDS, () -> x.put(0, 2));
         due.throwing("put(-1, 0)", BOUNDS, () -> x.put(-1, 0));
@@ -680,7 +658,7 @@ public final class PromisesTest {
 
     // Promises 26, 27, 28
     private void leaksAndTraps() {
-        GuestView x = with(EIGHT + ";program 0 0");
+        GuestView x = Due.with(EIGHT + ";program 0 0");
         Due.law(x, "cost 2 if op < 1");
         due.is("leaks", x.leaks(), NONE);
         due.is("traps", x.traps(60), 60);
@@ -692,7 +670,7 @@ public final class PromisesTest {
         x.ticks(1);
         due.is("from BOOT on", x.depth(2, 5), 2 + 5 * 2 * 3);
         due.is("nothing stays", x.guest(true, 0), 1);
-        GuestView y = with(EIGHT + ";program 2 0 2 3");
+        GuestView y = Due.with(EIGHT + ";program 2 0 2 3");
         due.is("leaks", y.leaks(), NONE);
         y.put(1, 1);
         due.is("leaks", y.leaks(), 4);
@@ -701,10 +679,9 @@ public final class PromisesTest {
         due.is("depth", y.depth(60, 5), 4 + 5);
         due.is("an alarm does not matter", y.alarm(100), 0);
         due.is("leaks", y.leaks(), 4);
-        due.is("PROGRAM without", with(EIGHT).leaks(), NONE);
+        due.is("PROGRAM without", Due.with(EIGHT).leaks(), NONE);
         y.put(3, 2);
         due.is("an alarm does not matter", y.traps(60), 1);
-        countedLeaks();
         due.throwing("traps(61)", ARGUMENT, () -> y.traps(61));
         due.throwing("traps(-1)", ARGUMENT, () -> y.traps(-1));
         due.throwing("depth(61, 0)", ARGUMENT, () -> y.depth(61, 0));
@@ -713,31 +690,13 @@ public final class PromisesTest {
         due.throwing("depth(0, -1)", ARGUMENT, () -> y.depth(0, -1));
     }
 
-    // CELL 0 is counted up to four, four times over, by CELL 1: where stands at the 60th STEP.
-    private void countedLeaks() {
-        GuestView x = with("op load 0 add 1 save 0;op drop skip 0;op guarded add 0;op add 0;op load 1 add 1 save 1;op skip 0;op where"
-            + ";program 0 1 2 3 4 5 2 6");
-        x.patch(1, true);
-        due.is("leaks at the last STEP that counts", x.leaks(), 60);
-        due.is("traps", x.traps(60), 16 + 12 + 3);
-        due.is("ahead", x.ahead(59, true), 7);
-        due.is("ahead", x.ahead(60, false), 8);
-        x.put(7, 3);
-        x.put(8, 6);
-        due.is("leaks beyond", x.leaks(), NONE);
-        x.ticks(60);
-        due.is("alike", x.alike(), true);
-        x.ticks(1);
-        due.is("alike no more", x.alike(), false);
-    }
-
     // Promise 30
     private void proofs() {
-        GuestView four = with("op guarded rise;op time;cost 0;program 0 0 0 1");
+        GuestView four = Due.with("op guarded rise;op time;cost 0;program 0 0 0 1");
         Due.law(four, "cost 1 if uses > 2");
         due.is("four OPS leak", four.leaks(), 4);
         due.is("three do not", four.proof(), NONE);
-        GuestView x = with(EIGHT + ";program 2 2");
+        GuestView x = Due.with(EIGHT + ";program 2 2");
         due.is("who", x.proof(), 1004);
         x.patch(3, true);
         due.is("move", x.proof(), 1005);
@@ -756,7 +715,7 @@ public final class PromisesTest {
 
     // Promises 31, 32
     private void clashes() {
-        GuestView x = with(SAVERS);
+        GuestView x = Due.with(SAVERS);
         int[][] clash = {{0, 1, 1, 0, 0}, {1, 0, 1, 0, 0}, {1, 1, 0, 0, 0}, {0, 0, 0, 0, 1}, {0, 0, 0, 1, 0}};
         for (int op = 0; op < 5; op++) {
             for (int other = 0; other < 5; other++) {
@@ -766,59 +725,50 @@ public final class PromisesTest {
             }
         }
         due.is("beside", x.beside(), 1 + 8);
-        due.is("loads do not CLASH", with("op load 1;op load 1;op save 2").beside(), 7);
+        due.is("loads do not CLASH", Due.with("op load 1;op load 1;op save 2").beside(), 7);
         due.throwing("clash(5, 5)", BOUNDS, () -> x.clash(5, 5) ? 1 : 0);
         due.throwing("clash(0, 5)", BOUNDS, () -> x.clash(0, 5) ? 1 : 0);
         due.throwing("clash(-1, 0)", BOUNDS, () -> x.clash(-1, 0) ? 1 : 0);
         due.throwing("clash(2, 2)", ARGUMENT, () -> x.clash(2, 2) ? 1 : 0);
     }
 
-    private int told(GuestView x, int call, int... bytes) {
-        byte[] row = new byte[bytes.length];
-        for (int i = 0; i < row.length; i++) {
-            row[i] = (byte) bytes[i];
-        }
-        Due.tape(x, row);
-        return call == 0 ? x.which() : call == 1 ? x.likely() : x.ask();
-    }
-
     // Promises 34, 35, 36
     private void rows() {
-        GuestView x = with(EIGHT);
-        due.is("one row may be wrong", told(x, 0, 0, 2), 255);
-        due.is("two rows", told(x, 0, 0, 2, 1, 1), 1 + 2 + 128);
-        due.is("none told", told(x, 0), 255);
-        due.is("three rows", told(x, 0, 2, 1, 1, 1, 6, 5), 1 + 16);
-        due.is("MODAL, LOCAL, TIMED", told(x, 0, 3, 1, 4, 1, 5, 1), 0);
-        due.is("MODAL and KIND", told(x, 0, 3, 1, 6, 7, 0, 1), 8);
-        due.is("LOCAL and KIND", told(x, 0, 4, 1, 6, 6, 0, 1), 32);
-        due.is("TIMED and KIND", told(x, 0, 5, 1, 6, 8, 0, 1), 64);
-        due.is("likely", told(x, 1, 0, 2), 7);
-        due.is("likely, the least", told(x, 1, 0, 2, 1, 1), 0);
-        due.is("likely, none told", told(x, 1), 0);
-        due.is("likely, a later one of none wrong", told(x, 1, 1, 1, 6, 3), 1);
-        due.is("likely, each of one wrong", told(x, 1, 3, 1, 6, 8), 3);
-        due.is("likely, one wrong ahead of two", told(x, 1, 3, 1, 6, 8, 5, 1), 6);
-        due.is("likely, two wrong of each", told(x, 1, 3, 1, 4, 1, 5, 1), NONE);
-        due.is("likely, three wrong and more", told(x, 1, 3, 1, 4, 1, 5, 1, 0, 2), NONE);
-        due.is("likely, 20 rows wrong", told(x, 1, new int[40]), NONE);
-        due.is("likely without OPS", told(new GuestView(), 1), NONE);
-        due.is("ask", told(x, 2, 0, 2, 1, 1), 6);
-        due.is("ask, none told: KIND", told(x, 2), 6);
-        due.is("ask, one alone", told(x, 2, 3, 1, 6, 7, 0, 1), NONE);
-        due.is("ask, the least of several", told(with("op add 1;op guarded add 1 add 1"), 2), 0);
-        due.is("ask by GUARDED", told(with("op add 1;op guarded add 1"), 2), 1);
-        due.is("ask in vain", told(with("op add 1;op add 1"), 2), 0);
+        GuestView x = Due.with(EIGHT);
+        due.is("one row may be wrong", Due.asked(x, 0, 0, 2), 255);
+        due.is("two rows", Due.asked(x, 0, 0, 2, 1, 1), 1 + 2 + 128);
+        due.is("none told", Due.asked(x, 0), 255);
+        due.is("three rows", Due.asked(x, 0, 2, 1, 1, 1, 6, 5), 1 + 16);
+        due.is("MODAL, LOCAL, TIMED", Due.asked(x, 0, 3, 1, 4, 1, 5, 1), 0);
+        due.is("MODAL and KIND", Due.asked(x, 0, 3, 1, 6, 7, 0, 1), 8);
+        due.is("LOCAL and KIND", Due.asked(x, 0, 4, 1, 6, 6, 0, 1), 32);
+        due.is("TIMED and KIND", Due.asked(x, 0, 5, 1, 6, 8, 0, 1), 64);
+        due.is("likely", Due.asked(x, 1, 0, 2), 7);
+        due.is("likely, the least", Due.asked(x, 1, 0, 2, 1, 1), 0);
+        due.is("likely, none told", Due.asked(x, 1), 0);
+        due.is("likely, a later one of none wrong", Due.asked(x, 1, 1, 1, 6, 3), 1);
+        due.is("likely, each of one wrong", Due.asked(x, 1, 3, 1, 6, 8), 3);
+        due.is("likely, one wrong ahead of two", Due.asked(x, 1, 3, 1, 6, 8, 5, 1), 6);
+        due.is("likely, two wrong of each", Due.asked(x, 1, 3, 1, 4, 1, 5, 1), NONE);
+        due.is("likely, three wrong and more", Due.asked(x, 1, 3, 1, 4, 1, 5, 1, 0, 2), NONE);
+        due.is("likely, 20 rows wrong", Due.asked(x, 1, new int[40]), NONE);
+        due.is("likely without OPS", Due.asked(new GuestView(), 1), NONE);
+        due.is("ask", Due.asked(x, 2, 0, 2, 1, 1), 6);
+        due.is("ask, none told: KIND", Due.asked(x, 2), 6);
+        due.is("ask, one alone", Due.asked(x, 2, 3, 1, 6, 7, 0, 1), NONE);
+        due.is("ask, the least of several", Due.asked(Due.with("op add 1;op guarded add 1 add 1"), 2), 0);
+        due.is("ask by GUARDED", Due.asked(Due.with("op add 1;op guarded add 1"), 2), 1);
+        due.is("ask in vain", Due.asked(Due.with("op add 1;op add 1"), 2), 0);
         int[] forty = new int[40];
-        due.is("40 bytes: micros is never 0", told(x, 0, forty), 0);
+        due.is("40 bytes: micros is never 0", Due.asked(x, 0, forty), 0);
         for (int call = 0; call < 3; call++) {
             int c = call;
-            due.throwing("42 bytes", ARGUMENT, () -> told(x, c, new int[42]));
-            due.throwing("odd", ARGUMENT, () -> told(x, c, 0));
-            due.throwing("what 7", ARGUMENT, () -> told(x, c, 0, 1, 7, 0));
+            due.throwing("42 bytes", ARGUMENT, () -> Due.asked(x, c, new int[42]));
+            due.throwing("odd", ARGUMENT, () -> Due.asked(x, c, 0));
+            due.throwing("what 7", ARGUMENT, () -> Due.asked(x, c, 0, 1, 7, 0));
             due.is("used up", x.end(1), false);
-            due.throwing("how much 11", ARGUMENT, () -> told(x, c, 0, 11));
-            due.throwing("how much 255", ARGUMENT, () -> told(x, c, 0, 255));
+            due.throwing("how much 11", ARGUMENT, () -> Due.asked(x, c, 0, 11));
+            due.throwing("how much 255", ARGUMENT, () -> Due.asked(x, c, 0, 255));
         }
         due.is("it is no text", x.fault(), NONE);
     }
@@ -829,7 +779,7 @@ public final class PromisesTest {
         int[] leads = {0, 3, 3, 2, 0, 0};
         int[] sides = {0, 1, 0, 1, 0, 0};
         for (int i = 0; i < cells.length; i++) {
-            GuestView x = with("cells " + cells[i]);
+            GuestView x = Due.with("cells " + cells[i]);
             due.is("lead of " + cells[i], x.lead(), leads[i]);
             due.is("side of " + cells[i], x.side(), sides[i]);
         }
@@ -837,7 +787,7 @@ public final class PromisesTest {
 
     // Promises 39, 43
     private void pairsAndTwins() {
-        GuestView x = with(SAVERS);
+        GuestView x = Due.with(SAVERS);
         int[] with = {NONE, 3, 4, 1, 2};
         due.is("pairs", x.pairs(NONE), 5);
         for (int op = 0; op < 5; op++) {
@@ -845,23 +795,23 @@ public final class PromisesTest {
         }
         due.throwing("pairs(5)", BOUNDS, () -> x.pairs(5));
         due.throwing("pairs(-2)", BOUNDS, () -> x.pairs(-2));
-        GuestView heavy = with("op add 1;op add 1 add 1;op add 1 add 1 add 1");
+        GuestView heavy = Due.with("op add 1;op add 1 add 1;op add 1 add 1 add 1");
         due.is("the heavier two", heavy.pairs(NONE), 5);
         due.is("none", heavy.pairs(0), NONE);
         due.is("with", heavy.pairs(2), 1);
-        due.is("one alone", with("op add 1").pairs(0), NONE);
+        due.is("one alone", Due.with("op add 1").pairs(0), NONE);
         due.is("twins", x.twins(), 1);
         x.guard(2, true);
         due.is("twins, GUARDED unlike", x.twins(), 0);
         x.guard(0, true);
         x.patch(0, true);
         due.is("twins, PATCHED does not matter", x.twins(), 1);
-        due.is("twins", with("op add 1;op add 5;op add 1 rise;op rise add 1;op add 1;op add 1").twins(), 3);
+        due.is("twins", Due.with("op add 1;op add 5;op add 1 rise;op rise add 1;op add 1;op add 1").twins(), 3);
     }
 
     // Promise 40
     private void restsOfLaw() {
-        GuestView x = with(EIGHT);
+        GuestView x = Due.with(EIGHT);
         due.is("without blame it is done and watched", x.rests(0), 1);
         Due.law(x, "blame 1 if op < 1");
         due.is("with blame neither rests", x.rests(0), 0);
@@ -872,7 +822,7 @@ public final class PromisesTest {
 
     // Promise 41
     private void oddsOfAlarms() {
-        GuestView x = with("alarm 30");
+        GuestView x = Due.with("alarm 30");
         due.is("odds", x.odds(2, 1), 5100);
         due.is("odds", x.odds(3, 2), 2160);
         due.is("odds, rounded down", x.odds(5, 5), 24);
@@ -892,7 +842,7 @@ public final class PromisesTest {
 
     // Promise 42
     private void mostOf() {
-        GuestView x = with(EIGHT + ";program 5 2 5 2 1");
+        GuestView x = Due.with(EIGHT + ";program 5 2 5 2 1");
         due.is("LONGEST", x.most(0), 7);
         due.is("DEAREST, the least of several", x.most(1), 0);
         due.is("MOST USED, the least of several", x.most(2), 2);
@@ -906,7 +856,7 @@ public final class PromisesTest {
 
     // Promises 44, 45, 46
     private void aheadAndTrials() {
-        GuestView x = with("op guarded drop;op add 1;op skip 1;program 1 2 1 0 0;alarm 39;vector 2");
+        GuestView x = Due.with("op guarded drop;op add 1;op skip 1;program 1 2 1 0 0;alarm 39;vector 2");
         due.is("ahead by 0", x.ahead(0, true), 0);
         due.is("ahead without alarms", x.ahead(1, true), 1);
         due.is("ahead, a SKIP", x.ahead(2, false), 3);
@@ -925,12 +875,12 @@ public final class PromisesTest {
         due.is("trial by 0", x.trial(0, false), 0);
         due.is("span", x.span(4, false), 2);
         due.is("span", x.span(4, true), 2);
-        GuestView y = with("op who;program 0");
+        GuestView y = Due.with("op who;program 0");
         due.is("trial of views", y.trial(1, true), 0);
         due.is("trial of views", y.trial(0, true), 1);
         due.is("ahead of one HALTED", y.ahead(60, true), 1);
         // SEED 1 to 6: the first draws modulo 100 are 38 8 47 17 55 26.
-        GuestView z = with("op guarded rise;program 0;alarm 9;vector 9;purse 7");
+        GuestView z = Due.with("op guarded rise;program 0;alarm 9;vector 9;purse 7");
         due.is("span, an alarm from SEED 2", z.span(1, false), 7);
         due.is("span, none from others", z.span(1, true), 8);
         due.is("span by 0", z.span(0, true), 7);
@@ -950,7 +900,7 @@ public final class PromisesTest {
 
     // Promises 47, 48
     private void logs() {
-        GuestView x = with("op guarded drop;op rise who;program 1 0 0");
+        GuestView x = Due.with("op guarded drop;op rise who;program 1 0 0");
         // rise who: an ESCAPE; R is 1 on both. drop: EMULATED. drop: REFLECTED, to 0. Then again.
         x.ticks(4);
         int[][] rows = {{0, 1, 2, 0}, {1, 0, 1, 1}, {2, 0, 0, 2}, {3, 1, 2, 0}};
@@ -971,7 +921,7 @@ public final class PromisesTest {
         due.throwing("led(2)", BOUNDS, () -> x.led(2, false));
         due.throwing("led(-1)", BOUNDS, () -> x.led(-1, true));
         // who rise: an ESCAPE first, then that VIEWS are unlike, of one TICK.
-        GuestView y = with("op add 1;op who rise;program 0 1 1");
+        GuestView y = Due.with("op add 1;op who rise;program 0 1 1");
         y.ticks(3);
         due.is("rows", y.count(10), 3);
         int[][] due2 = {{1, 1, 2, 1}, {1, 1, 3, 1}, {2, 1, 2, 2}};
@@ -987,7 +937,7 @@ public final class PromisesTest {
 
     // Promise 50
     private void undone() {
-        GuestView x = with(EIGHT + ";program 2 0 0");
+        GuestView x = Due.with(EIGHT + ";program 2 0 0");
         due.is("none", x.undo(), false);
         x.ticks(2);
         x.ticks(1);
@@ -1039,7 +989,7 @@ public final class PromisesTest {
         }
         due.is("the thirteenth", x.undo(), false);
         x.boot();
-        wrongBench(x, "fly", 0);
+        due.wrongBench(x, "fly", 0);
         due.is("a wrong text is none", x.count(11), 1);
         due.is("fault stays", x.undo(), true);
         due.is("fault stays", x.fault(), 0);
@@ -1054,7 +1004,7 @@ public final class PromisesTest {
 
     // Promises 51, 52
     private void images() {
-        GuestView x = with(EIGHT + ";program 0 0;purse 5");
+        GuestView x = Due.with(EIGHT + ";program 0 0;purse 5");
         Due.law(x, "worth 2");
         x.ticks(3);
         x.image();
@@ -1065,7 +1015,7 @@ public final class PromisesTest {
         Due.law(x, "worth 4;worth 5");
         x.boot();
         x.seed(9);
-        wrongLaw(x, "tax", 0);
+        due.wrongLaw(x, "tax", 0);
         x.feed(0, 0, 0, 0, 0);
         due.is("back", x.back(), true);
         due.is("none are remembered", x.count(11), 0);
