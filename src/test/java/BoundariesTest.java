@@ -26,6 +26,7 @@ public final class BoundariesTest {
         test.settingsInRange();
         test.stepsInRange();
         test.numbersThatTellNone();
+        test.atFirst();
         test.noOpsAtAll();
         test.firstException();
         test.lastCall();
@@ -197,6 +198,32 @@ public final class BoundariesTest {
         due.is("micro(3, 2)", x.micro(3, 2, false), NONE);
         due.is("log(4), the oldest", x.log(4, 0), 0);
         due.is("log(5)", x.log(5, 0), NO_ROW);
+    }
+
+    // (none at first), (0 at first), (2 at first; told as its half), (1 at first), (not at first)
+    private void atFirst() {
+        GuestView x = new GuestView();
+        int[] counts = {0, 0, NONE, 0, 0, 1, 1, 0, 0, 0, 0, 0};
+        for (int what = 0; what < 12; what++) {
+            due.is("count(" + what + ")", x.count(what), counts[what]);
+        }
+        for (int what = 0; what <= 13; what++) {
+            int want = what == 2 || what == 5 ? 1 : 0;
+            due.is("BARE, what " + what, x.guest(false, what), want);
+            due.is("HOSTED, what " + what, x.guest(true, what), want);
+        }
+        for (int cell = 0; cell < 8; cell++) {
+            due.is("FIRST CELL", x.cell(cell), 0);
+        }
+        due.is("PROGRAM", x.program(0), NONE);
+        due.is("SEED", x.seed(1), 1);
+        due.is("fault", x.fault(), NONE);
+        due.is("TAPE", x.end(1), false);
+        due.is("VECTOR", x.vector(0), 0);
+        due.is("half of SHIFT", x.shift(1), 1);
+        due.is("COST", x.cost(1), 1);
+        due.is("ALARM", x.alarm(0), 0);
+        due.is("PATCHED", Due.with("op guarded rise").op(0, 2), 0);
     }
 
     // A bench without OPS

@@ -2,8 +2,9 @@ import java.util.Random;
 
 /** Long runs of calls on an object and on the plain model beside it: both must answer alike. */
 public final class RandomRunsTest {
-    private static final int RUNS = 1500;
-    private static final int CALLS = 250;
+    private static final int RUNS = 1200;
+    // What an object answers behind so many calls is free; one turn takes 23 at most.
+    private static final int CALLS = 512 - 23;
     private static final int[] ENDS = {Integer.MIN_VALUE, -2, -1, 61, 100, 101, 512, 1000, Integer.MAX_VALUE};
 
     private final Random random;
@@ -12,6 +13,7 @@ public final class RandomRunsTest {
     private final GuestView x = new GuestView();
     private final Model m = new Model();
     private String call = "";
+    private int calls;
 
     private RandomRunsTest(long seed) {
         random = new Random(seed);
@@ -21,12 +23,12 @@ public final class RandomRunsTest {
     public static void main(String[] args) {
         for (int run = 0; run < RUNS; run++) {
             RandomRunsTest test = new RandomRunsTest(run);
-            StringBuilder calls = new StringBuilder();
-            for (int i = 0; i < CALLS; i++) {
+            StringBuilder told = new StringBuilder();
+            for (int i = 0; test.calls <= CALLS; i++) {
                 String[] both = test.one(i);
-                calls.append(test.call).append(" -> ").append(both[1]).append('\n');
+                told.append(test.call).append(" -> ").append(both[1]).append('\n');
                 if (!both[0].equals(both[1])) {
-                    System.out.print(calls);
+                    System.out.print(told);
                     System.out.println("run " + run + ": " + test.call + " answered " + both[0] + ", due is " + both[1]);
                     System.exit(1);
                 }
@@ -52,7 +54,7 @@ public final class RandomRunsTest {
     }
 
     private int anOp() {
-        return near(0, Math.max(0, x.count(0) - 1));
+        return near(0, Math.max(0, m.count(0) - 1));
     }
 
     private String word() {
@@ -107,7 +109,7 @@ public final class RandomRunsTest {
     private String benchText() {
         StringBuilder b = new StringBuilder();
         int lines = random.nextInt(25) == 0 ? 15 : upTo(8);
-        int[] ops = {x.count(0)};
+        int[] ops = {m.count(0)};
         for (int i = 0; i < lines; i++) {
             b.append(i > 0 ? ";" : "").append(benchLine(ops));
         }
@@ -187,14 +189,17 @@ public final class RandomRunsTest {
             }
             x.feed(n[0], n[1], n[2], n[3], n[4]);
             m.feed(n);
+            calls++;
         }
         x.end(cut.length());
         m.end(cut.length());
+        calls += 2;
         call = "'" + cut + "' ";
     }
 
     private String[] both(String name, Due.Call mine, Due.Call models) {
         call += name;
+        calls++;
         return new String[] {answer(mine), answer(models)};
     }
 
@@ -257,7 +262,7 @@ public final class RandomRunsTest {
             case 1: return both("patch " + op + is, () -> bit(x.patch(op, is)), () -> bit(m.patch(op, is)));
             case 2: return both("guard " + op + is, () -> bit(x.guard(op, is)), () -> bit(m.guard(op, is)));
             case 3: {
-                int place = near(0, Math.min(9, x.count(3)));
+                int place = near(0, Math.min(9, m.count(3)));
                 return both("put " + place + " " + op, () -> x.put(place, op), () -> m.put(place, op));
             }
             case 4: {

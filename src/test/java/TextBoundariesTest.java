@@ -404,10 +404,11 @@ public final class TextBoundariesTest {
         String[] law = {"cost", "blame", "worth", "cost 1;", "cost 1 if", "cost 1 if not", "cost 1 if (", "cost 1 if (guarded",
             "cost 1 if guarded and", "cost 1 if guarded or", "cost 1 if op", "cost 1 if 3", "cost 1 if op +", "cost 1 if op <",
             "cost 1 if op >", "cost 1 if op < 3 +", "cost 1 if (op < 3", "cost 1 if guarded;"};
+        GuestView y = Due.with("op rise");
         for (String text : law) {
-            due.wrongLaw(x, text, text.length());
-            due.wrongLaw(x, text + "   ", text.length() + 3);
-            due.wrongLaw(x, "  " + text + " ", text.length() + 3);
+            due.wrongLaw(y, text, text.length());
+            due.wrongLaw(y, text + "   ", text.length() + 3);
+            due.wrongLaw(y, "  " + text + " ", text.length() + 3);
         }
     }
 
@@ -660,7 +661,6 @@ public final class TextBoundariesTest {
 
     // of each two bytes: what (0 to 6), how much (0 to 10); at most 40 bytes; none may be told
     private void rowsOnTape() {
-        GuestView x = Due.with("op add 1;op quiet;op guarded drop");
         int[] twenty = new int[40];
         for (int at = 0; at < 40; at += 2) {
             twenty[at] = at == 38 ? 6 : 1;
@@ -669,6 +669,7 @@ public final class TextBoundariesTest {
         int[] none = {7, 0, 6};
         for (int call = 0; call < 3; call++) {
             int c = call;
+            GuestView x = Due.with("op add 1;op quiet;op guarded drop");
             due.is("none told", Due.asked(x, c), none[c]);
             due.is("20 rows", Due.asked(x, c, twenty), new int[] {3, 1, 6}[c]);
             due.is("how much 10", Due.asked(x, c, 6, 10, 6, 10), new int[] {2, 1, NONE}[c]);
