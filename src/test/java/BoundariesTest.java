@@ -430,6 +430,15 @@ public final class BoundariesTest {
         x.guard(0, false);
         due.is("but for the first", x.hostable(), false);
         due.is("but for the first", x.least() * 10 + x.open(), 11);
+        GuestView y = new GuestView();
+        y.image();
+        Due.bench(y, "op who;op who");
+        due.is("two", y.least() * 10 + y.open(), 32);
+        y.back();
+        due.is("none any more", y.least() * 10 + y.open(), 0);
+        due.is("HOSTABLE without OPS", y.hostable(), true);
+        Due.bench(y, "op add 1;op who");
+        due.is("another first OP", y.least() * 10 + y.open(), 21);
     }
 
     // HALTED: if PC is as many as PROGRAM has OPS, or more
@@ -981,6 +990,9 @@ public final class BoundariesTest {
             int right = row[7] - played(row, 0, 7);
             due.is("side of row " + n, x.side(), right > left ? 1 : 0);
             due.is("lead of row " + n, x.lead(), Math.max(left, right));
+            Due.bench(x, "op rise rise rise" + ";op rise rise rise".repeat(6) + ";op rise");
+            due.is("pairs between", x.pairs(NONE), 3 * 7 + 1);
+            due.is("lead of row " + n + " again", x.lead(), Math.max(left, right));
         }
     }
 

@@ -254,8 +254,11 @@ public final class TextBoundariesTest {
         rightBench(x, "op rise;op drop;program 1 0");
         due.is("the last OP", x.program(0), 1);
         due.wrongBench(x, "program 1 2", 10);
+        due.is("LEAST of two", x.least(), 2 + 1);
         rightBench(x, "op who;program 2");
-        due.is("an OP of an earlier text and one of this", x.program(0), 2);
+        due.is("an OP of a later text", x.program(0), 2);
+        due.is("an OP of a later text is MODAL", x.op(2, 4), 1);
+        due.is("an OP of a later text", x.least(), 4 + 2 + 1);
         rightBench(x, "op rise;op rise;op rise;op rise;op rise;program 7");
         due.wrongBench(x, "program 8", 8);
     }
@@ -716,6 +719,7 @@ public final class TextBoundariesTest {
         due.is("none fits", Due.asked(x, 2, 6, 10, 6, 10), NONE);
         due.is("eight alike: each what is as good", Due.asked(Due.with("op rise" + ";op rise".repeat(7)), 2), 0);
         due.is("a KIND of its own, 10", Due.asked(Due.with("op quiet;op skip 1;op quiet;op quiet"), 2), 6);
+        due.is("a KIND of both, 10", Due.asked(Due.with("op quiet;op quiet add 1"), 2), 0);
         due.is("LOCAL parts, as KIND does", Due.asked(Due.with("op move load 1;op move load 1;op add 1 add 1;op add 1 add 1"), 2), 2);
         due.is("TIMED alone parts", Due.asked(Due.with("op add 1 time;op add 1 add 1"), 2), 5);
         due.is("MODAL alone parts", Due.asked(Due.with("op add 1 who;op add 1 add 1"), 2), 3);
