@@ -1128,39 +1128,41 @@ public final class GuestView {
             return true;
         }
 
+        /** SUM < SUM or SUM > SUM, PART by PART: the codes of the first one, of the second one, then the sign. */
         private boolean readComparison() {
-            if (!readSum()) {
-                return false;
-            }
-            boolean less = reader.isSign('<');
-            if (!less && !reader.isSign('>')) {
-                return reader.refuse();
-            }
-            reader.step();
-            if (!readSum()) {
-                return false;
-            }
-            rules.addCode(less ? CODE_LESS : CODE_MORE);
-            return true;
-        }
-
-        private boolean readSum() {
+            int sign = NONE;
+            boolean adds = false;
             for (int parts = 0; parts < MOST_BYTES; parts++) {
                 int part = reader.wordAmong(PART_WORDS);
                 if (part == NONE && !reader.isNumberTo(999)) {
                     return reader.refuse();
                 }
                 rules.addCode(part == NONE ? NUMBERS + reader.value : part);
-                if (parts > 0) {
+                if (adds) {
                     rules.addCode(CODE_PLUS);
                 }
                 reader.step();
-                if (!reader.isSign('+')) {
+                adds = reader.isSign('+');
+                if (!adds && sign != NONE) {
+                    rules.addCode(sign);
                     return true;
+                }
+                if (!adds) {
+                    sign = comparingSign();
+                    if (sign == NONE) {
+                        return reader.refuse();
+                    }
                 }
                 reader.step();
             }
             return reader.refuse();
+        }
+
+        private int comparingSign() {
+            if (reader.isSign('<')) {
+                return CODE_LESS;
+            }
+            return reader.isSign('>') ? CODE_MORE : NONE;
         }
     }
 
