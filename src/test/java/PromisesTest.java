@@ -953,7 +953,7 @@ public final class PromisesTest {
         due.is("PC", x.guest(true, 0), 0);
         due.is("SEED", x.seed(1), 1);
         due.is("none", x.undo(), false);
-        x.ticks(3);
+        x.ticks(2);
         x.boot();
         x.patch(3, true);
         x.guard(4, true);
@@ -976,8 +976,8 @@ public final class PromisesTest {
             due.is("PROGRAM", x.program(0), n >= 5 ? 2 : 7);
             due.is("GUARDED", x.op(4, 1), n >= 6 ? 0 : 1);
             due.is("PATCHED", x.op(3, 2), n >= 7 ? 0 : 1);
-            due.is("PC", x.guest(true, 0), n == 8 ? 0 : 0);
-            due.is("TICK", x.count(8), n >= 9 ? 0 : 3);
+            due.is("PC", x.guest(true, 0), n == 8 ? 2 : 0);
+            due.is("TICK", x.count(8), n >= 9 ? 0 : 2);
         }
         for (int n = 0; n < 13; n++) {
             x.store(0, n % 4);
